@@ -134,7 +134,7 @@ public final class FlagChips {
             case 1:
                 return sky.heardWord(speaker, word);
             case 2:
-                return sky.isWrong(speaker, word) ? 1 : 0;
+                return speaker.isWrong(word, sky.heardWord(speaker, word)) ? 1 : 0;
             default:
                 throw new IndexOutOfBoundsException("what is not 0 to 2");
         }
@@ -434,6 +434,11 @@ public final class FlagChips {
             return index >= 0 && index < words.length ? words[index] : 0;
         }
 
+        boolean isWrong(int word, int heard) {
+            // Hearing nothing (0) is wrong as well.
+            return heard * wordAt(word) <= 0;
+        }
+
         int start(int word, int length) {
             return word * length + delay;
         }
@@ -495,15 +500,10 @@ public final class FlagChips {
             return heard(hill.code, hill.start(word, codes.length));
         }
 
-        boolean isWrong(Hill hill, int word) {
-            // Hearing nothing (0) is wrong as well.
-            return heardWord(hill, word) * hill.wordAt(word) <= 0;
-        }
-
         int wrongWords(Hill hill) {
             int wrong = 0;
             for (int word = 0; word < hill.said; word++) {
-                if (isWrong(hill, word)) {
+                if (hill.isWrong(word, heardWord(hill, word))) {
                     wrong++;
                 }
             }

@@ -28,14 +28,14 @@ final class Check {
         }
     }
 
-    /** The call is to throw just this exception, and to change nothing that the object tells. */
+    /** The call is to throw just this exception by its own throw, and to change nothing that the object tells. */
     static void refuses(FlagChips x, String call, Class<? extends RuntimeException> due, Call run) {
         long before = x.digest();
         String got = "nothing";
         try {
             run.run();
         } catch (RuntimeException e) {
-            got = e.getClass().getName();
+            got = thrown(e, FlagChips.class);
         }
         if (!got.equals(due.getName())) {
             fail(call + " threw " + got + ", due is " + due.getName());
@@ -43,6 +43,13 @@ final class Check {
         if (x.digest() != before) {
             fail(call + " changed the object");
         }
+    }
+
+    /** The exception's name, and a word more if a library's check threw it and not a throw of this class. */
+    static String thrown(Throwable e, Class<?> thrower) {
+        StackTraceElement[] trace = e.getStackTrace();
+        boolean own = trace.length > 0 && trace[0].getClassName().startsWith(thrower.getName());
+        return e.getClass().getName() + (own ? "" : " from the library");
     }
 
     static void fail(String text) {

@@ -151,6 +151,11 @@ final class HillsTest {
         Check.due("sky(8) behind it", x.sky(8), 0);
         Check.due("sky(95) behind it", x.sky(95), 0);
         Check.due("strength behind it", x.about(0, 1), 3);
+        x.setDelay(0, 4);
+        x.setStrength(0, 6);
+        Check.due("sky(4) with another delay and strength behind it", x.sky(4), -5);
+        x.setDelay(0, 0);
+        x.setStrength(0, 3);
         Check.due("say(0, false) behind it", x.say(0, false), 1);
         Check.due("sky(0) with it", x.sky(0), -8);
         Check.refuses(x, "hush(2)", INDEX, () -> x.hush(2));

@@ -66,7 +66,7 @@ final class ModelTest {
         try {
             return String.valueOf(method.invoke(target, with));
         } catch (InvocationTargetException e) {
-            return "throws " + e.getCause().getClass().getName();
+            return "throws " + Check.thrown(e.getCause(), target.getClass());
         }
     }
 

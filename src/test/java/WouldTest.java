@@ -18,24 +18,24 @@ final class WouldTest {
 
     private static void promise17Advise() {
         FlagChips x = new FlagChips();
+        x.hill(4, 2);
+        x.setDelay(0, 3);
         for (int code = 0; code < 4; code++) {
             x.hill(code, 1);
         }
-        x.hill(4, 2);
-        x.setDelay(4, 3);
         x.hill(5, 3);
         long before = x.digest();
-        // Codes 6 and 7 are free; what each is alike to hills 4 and 5, added: 8 and 8, 28 and 12, 8 and 32, ..
+        // Codes 6 and 7 are free; the sums of each, by the delay from 0 on: 8 and 8, 28 and 12, 8 and 32, ..
         int[] due = {6, 7, 6, 6, 6, 7, 6, 6};
         for (int delay = 0; delay < 8; delay++) {
             Check.due("advise(" + delay + ")", x.advise(delay), due[delay]);
         }
-        x.setDelay(4, 0);
+        x.setDelay(0, 0);
         Check.due("advise(2), 16 against 24", x.advise(2), 6);
-        x.setStrength(4, 4);
+        x.setStrength(0, 4);
         Check.due("advise(2), 32 against 24", x.advise(2), 7);
-        x.setStrength(4, 2);
-        x.setDelay(4, 3);
+        x.setStrength(0, 2);
+        x.setDelay(0, 3);
         Check.due("nothing is changed", x.digest(), before);
     }
 
