@@ -5,9 +5,17 @@ final class Check {
     private Check() {
     }
 
+    // A hill's last word is over at 207; a word more than it can have would be at 223.
+    private static final int SIGNAL_CHIPS = 240;
+
     /** A call that is to throw. */
     interface Call {
         void run();
+    }
+
+    /** A call that is to throw because of its number. */
+    interface NumberCall {
+        void run(int number);
     }
 
     static void due(String call, long got, long want) {
@@ -42,6 +50,23 @@ final class Check {
         }
         if (x.digest() != before) {
             fail(call + " changed the object");
+        }
+    }
+
+    /** The call is refused with the numbers next to the range and with the outermost ones; # is the number's place. */
+    static void refusesOutside(FlagChips x, String call, Class<? extends RuntimeException> due, int least, int most,
+            NumberCall run) {
+        int[] numbers = {least - 1, most + 1, Integer.MIN_VALUE, Integer.MAX_VALUE};
+        for (int number : numbers) {
+            refuses(x, call.replace("#", String.valueOf(number)), due, () -> run.run(number));
+        }
+    }
+
+    /** The two tell the same of themselves, and of all chips that hills can signal at; takes 241 calls of each. */
+    static void same(String when, FlagChips x, FlagChips other) {
+        due(when + ": digest()", x.digest(), other.digest());
+        for (int time = 0; time < SIGNAL_CHIPS; time++) {
+            due(when + ": sky(" + time + ")", x.sky(time), other.sky(time));
         }
     }
 
